@@ -20,6 +20,8 @@ public final class ExactTests {
     private static final int MOST_FIGURES = 60;
     /** Thirty differences of at most 2000 each: no STATISTIC is farther from 0. */
     private static final int MOST_STATISTIC = 60000;
+    /** Halved so often, the 4001 differences that can be come down to one. */
+    private static final int HALVINGS = 12;
 
     private static final int TAILS = 4;
     private static final int FAR = 0, LOW = 1, HIGH = 2, JUST = 3;
@@ -445,7 +447,7 @@ public final class ExactTests {
     private int shiftInPlace(int place) {
         int least = -2 * MOST_SIZE;
         int most = 2 * MOST_SIZE;
-        while (least < most) {
+        for (int step = 0; step < HALVINGS && least < most; step++) {
             int half = (least + most) >> 1;
             if (countShiftsUpTo(half) >= place) {
                 most = half;
@@ -1227,7 +1229,7 @@ public final class ExactTests {
             int without = size - 1;
             int with = size - 1;
             int at = end;
-            while (without >= 0) {
+            for (int left = end; left > 0 && without >= 0; left--) {
                 boolean takesWith = with >= 0 && sums[with] + number >= sums[without];
                 int from = takesWith ? with : without;
                 int sum = takesWith ? sums[from] + number : sums[from];
@@ -1346,7 +1348,7 @@ public final class ExactTests {
             int i = 0;
             int j = other.size - 1;
             long count = 0;
-            while (i < one.size && j >= 0) {
+            for (int left = one.size + other.size; left > 0 && i < one.size && j >= 0; left--) {
                 int sum = one.sums[i] + other.sums[j];
                 if (sum == target) {
                     count += (long) one.times[i] * other.times[j];

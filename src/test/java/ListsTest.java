@@ -42,7 +42,6 @@ public final class ListsTest {
         due.is("20: anew", x.note(3), 1);
     }
 
-
     private static void rejected() {
         ExactTests x = new ExactTests();
         due.is("21: none there", x.rejected(1, 1), 0);
@@ -156,7 +155,7 @@ public final class ListsTest {
 
     private static void checkOfLongNumbers() {
         ExactTests x = new ExactTests();
-        TestsTest.fill(x, 2, 2, 30, 0, 0, 30);
+        Bench.fill(x, 2, 2, 30, 0, 0, 30);
         x.tables();
         long lower = 118264581564861424L;
         for (int k = 0; k < 4; k++) {

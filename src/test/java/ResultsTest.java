@@ -27,7 +27,7 @@ public final class ResultsTest {
 
     private static ExactTests thirtyAndThirty() {
         ExactTests x = new ExactTests();
-        TestsTest.fill(x, 2, 2, 30, 0, 0, 30);
+        Bench.fill(x, 2, 2, 30, 0, 0, 30);
         x.tables();
         return x;
     }
@@ -130,7 +130,7 @@ public final class ResultsTest {
 
     private static void result() {
         ExactTests x = new ExactTests();
-        TestsTest.fill(x, 2, 2, 2, 3, 4, 5);
+        Bench.fill(x, 2, 2, 2, 3, 4, 5);
         x.sample(0, 4);
         x.sample(0, -9);
         x.sample(1, 4);
@@ -153,7 +153,7 @@ public final class ResultsTest {
 
     private static void ways() {
         ExactTests x = new ExactTests();
-        TestsTest.fill(x, 2, 2, 2, 3, 4, 5);
+        Bench.fill(x, 2, 2, 2, 3, 4, 5);
         x.tables();
         due.is("19: of the TABLE TEST", x.ways(2), -3);
         for (int i = 0; i < 10; i++) {
@@ -204,7 +204,7 @@ public final class ResultsTest {
         due.is("19: ways stay", x.ways(3), 1);
         due.is("19: ways stay", x.ways(4), 1);
         due.is("19: ways stay", x.ways(7), 0);
-        TestsTest.chance(due, "14: the chance stays", x, 1, 1, 7);
+        due.chance("14: the chance stays", x, 1, 1, 7);
         x.tables();
         due.is("18: until the next that goes", x.result(0), 0);
     }
