@@ -543,6 +543,27 @@ public final class EdgesOfPromisesTest {
         due.is("below the least", x.ways(-1), 0);
         due.is("the most", x.ways(30000), 155117520);
         waysTogether();
+        waysFarAway();
+    }
+
+    /** No number far outside is taken for a sum of more or of fewer numbers than A has. */
+    private static void waysFarAway() {
+        for (int sign = -1; sign <= 1; sign += 2) {
+            for (int which = 0; which <= 1; which++) {
+                ExactTests x = new ExactTests();
+                for (int i = 0; i < 15; i++) {
+                    x.sample(0, i % 2 == 0 ? 1000 : -1000);
+                    x.sample(1, i % 2 == 0 ? -1000 : 1000);
+                }
+                x.labels(which);
+                for (int power = 15; power <= 24; power++) {
+                    for (int step = -20; step <= 20; step++) {
+                        int s = sign * ((1 << power) + 1000 * step);
+                        due.is("of labels(" + which + "), ways(" + s + ")", x.ways(s), 0);
+                    }
+                }
+            }
+        }
     }
 
     private static void waysTogether() {

@@ -1,4 +1,6 @@
 import java.math.BigInteger;
+import java.util.ArrayList;
+import java.util.List;
 
 /** The sentences of the document's "Terms" that name a boundary, each with a test of its own. */
 public final class EdgesOfTermsTest {
@@ -29,6 +31,7 @@ public final class EdgesOfTermsTest {
         ranksOfSizes();
         signsAlone();
         resultsStay();
+        resultsOfEachTestStay();
         listOfTwelve();
         likeChances();
         levelsByStep();
@@ -472,6 +475,50 @@ public final class EdgesOfTermsTest {
         Bench.fill(x, 2, 2, 1, 0, 0, 1);
         due.is("a TEST that goes", x.tables(), 2);
         due.chances("the next", x, 1, 1, 1, 1, 1, 2, 1, 2);
+    }
+
+    /** What RESULTS and CASES answer. */
+    private static List<Long> resultsOf(ExactTests x) {
+        List<Long> all = new ArrayList<>();
+        for (int what = 0; what <= 2; what++) {
+            all.add((long) x.result(what));
+        }
+        for (int tail = 0; tail <= 3; tail++) {
+            all.add(Bench.number(x, tail, 0).longValue());
+            all.add(Bench.number(x, tail, 1).longValue());
+            all.add((long) x.figure(tail, 7));
+            all.add((long) x.against(tail, 1, 3));
+        }
+        for (int s = 0; s <= 12; s++) {
+            all.add(x.ways(s));
+            all.add((long) x.weighs(s));
+            all.add((long) x.caseAt(s, 1, 1));
+        }
+        all.add((long) x.told(7));
+        return all;
+    }
+
+    private static void resultsOfEachTestStay() {
+        due.sentence("Terms 2", "RESULTS stay until the next TEST that goes, whatever is changed behind it");
+        for (int test = 0; test <= 5; test++) {
+            ExactTests x = new ExactTests();
+            Bench.fill(x, 2, 3, 2, 0, 2, 1, 3, 2);
+            Bench.samples(x, Bench.of(3, 5, 5), Bench.of(1, 3));
+            Bench.differences(x, 2, 0, -4, -2, 7);
+            int answer = test == 0 ? x.tables() : test < 3 ? x.labels(test - 1) : x.signs(test - 3);
+            due.isTrue("test " + test + " went", answer > 0);
+            List<Long> before = resultsOf(x);
+            x.sample(0, 9);
+            x.sample(1, -9);
+            x.pair(1, 9);
+            x.cell(0, 0, 1);
+            x.cell(1, 1, 0);
+            due.isTrue("test " + test + ", more is told", resultsOf(x).equals(before));
+            x.table(5, 1);
+            x.clear(0);
+            x.clear(1);
+            due.isTrue("test " + test + ", all is emptied", resultsOf(x).equals(before));
+        }
     }
 
     /** Notes 1 / 2^n. */
